@@ -200,6 +200,13 @@ final class AskedTest {
         state.offer(27, 0, 9);
         state.vote(2 + 1, 1, true);
         Check.same("not swapped yet", true, state.areAlike());
+        Claimclub fine = new Claimclub();
+        fine.discount(0);
+        fine.accept(plain(fine, 2, 10000, 0, 9), fine.offer(28, 0, 9));
+        fine.accept(plain(fine, 0, 9999, 0, 9), fine.offer(30, 0, 9));
+        // The club's is worth 6999 of 9999, that is an effort of 10000 less 6999.
+        Check.same("an effort of the club's", 3001, fine.effort(0));
+        Check.same("a gap of 201, of the first claim", false, fine.areAlike());
         state.settle(1);
         Check.same("bonds with a gap of 300", false, state.areAlike());
     }
@@ -295,6 +302,19 @@ final class AskedTest {
         sharp.vote(0, 0, true);
         sharp.vote(1, 0, true);
         Check.same("just 66 of 100", true, sharp.passes(0, -1));
+        for (int series = 0; series <= 3; series++) {
+            Claimclub half = new Claimclub();
+            bond(half, 1, 1000, (series + 1) % 4);
+            bond(half, 2, 100, series);
+            bond(half, 3, 99, series);
+            half.offer(0, 0, 9);
+            half.vote(0, 0, true);
+            half.vote(2, 0, true);
+            Check.same("99 of 199 in the series " + series, false, half.passes(0, -1));
+            bond(half, 4, 1, series);
+            half.vote(3, 0, true);
+            Check.same("100 of 200 in the series " + series, true, half.passes(0, -1));
+        }
         Check.same("66 of 100 in a series are too few", false, sharp.passes(0, 0));
         bond(sharp, 0, 9999, 1);
         Check.same("the state's own is not counted", true, sharp.passes(0, -1));
@@ -371,6 +391,13 @@ final class AskedTest {
         Check.same("it grows above the output, but not in millionths", true, growing.isBearable(1));
         growing.discount(202);
         Check.same("it grows above the output", false, growing.isBearable(1));
+        Claimclub sharp = withDebt(0, 10000);
+        sharp.economy(100, 0, 0);
+        sharp.discount(101);
+        // 10101 by 1010000 is 10000.99 millionths.
+        Check.same("just below a millionth more", true, sharp.isBearable(1));
+        sharp.discount(102);
+        Check.same("a millionth more", false, sharp.isBearable(1));
         Claimclub hidden = new Claimclub();
         hidden.claim(0, 1, 1000000, 0, 9, 0, -1, true);
         hidden.claim(0, 1, 1000000, 0, 9, 0, -1, true);

@@ -37,6 +37,7 @@ final class Check {
         String before = Seen.of(state);
         RuntimeException thrown = thrownBy(call);
         same(what, due.getName(), thrown == null ? "nothing thrown" : thrown.getClass().getName());
+        same(what + " is thrown by the class itself", true, thrown == null || isOwn(thrown));
         same(what + " changes nothing", before, Seen.of(state));
     }
 
@@ -46,6 +47,12 @@ final class Check {
         for (int number : wrong) {
             refused(what + " with " + number, due, state, () -> call.accept(number));
         }
+    }
+
+    /** Whether the class threw it, not the library: the machine's own kinds bear other names. */
+    static boolean isOwn(RuntimeException thrown) {
+        StackTraceElement[] stack = thrown.getStackTrace();
+        return stack.length > 0 && stack[0].getClassName().startsWith("Claimclub");
     }
 
     static RuntimeException thrownBy(Runnable call) {

@@ -419,6 +419,10 @@ final class ClaimsAndYearsTest {
         state.year(1);
         Check.same("a pledge comes back to a purse below 0", 270 - 180 - 1000 + 80, state.ofState(1));
         Check.same("that other is paid", Claimclub.PAID, state.ofClaim(other, 0));
+        Claimclub poor = new Claimclub();
+        plain(poor, 0, 1, 1000, 1000, 1, 0);
+        poor.economy(0, 0, 1);
+        Check.same("a purse of 1", 1, poor.year(1));
     }
 
     private static void yearPassesTheStatesOwn() {

@@ -17,6 +17,7 @@ final class OffersAndVotesTest {
         votesEndWithTheClaim();
         voteRefuses();
         settleSwapsSeriesThatPass();
+        settleSwapsByThreeQuarters();
         settleSwapsAllIfPooled();
         settleSwapsNothing();
         settleEndsTheVotesOfThatOffer();
@@ -292,6 +293,20 @@ final class OffersAndVotesTest {
         Check.same("the yes of the new one, in its series", true, state.passes(offer, 1));
         Check.same("the new ones may be swapped again", 3, state.settle(offer));
         Check.same("from the new one", 5, state.ofClaim(8, 7));
+    }
+
+    private static void settleSwapsByThreeQuarters() {
+        Claimclub state = new Claimclub();
+        bond(state, 1, 74, 1);
+        bond(state, 2, 1, 1);
+        bond(state, 3, 25, 1);
+        bond(state, 4, 1000, 2);
+        int offer = state.offer(0, 0, 3);
+        state.vote(0, offer, true);
+        Check.same("74 of 100", 0, state.settle(offer));
+        state.vote(0, offer, true);
+        state.vote(1, offer, true);
+        Check.same("75 of 100", 3, state.settle(offer));
     }
 
     private static void settleSwapsAllIfPooled() {

@@ -29,7 +29,7 @@ final class SuitsAndProgrammeTest {
         return state.claim(kind, lender, principal, coupon, years, 0, kind == Claimclub.BOND ? 0 : Check.NONE, false);
     }
 
-    /** A state whose claim 0, of 1000 with 1000 percent of a percent, is judged, with arrears of 205. */
+    /** A state whose claim 0, of 1000 with 100 a year, is judged, with arrears of 205. */
     private static Claimclub withJudged() {
         Claimclub state = new Claimclub();
         plain(state, 3, 5, 1000, 1000, 9);
@@ -297,6 +297,10 @@ final class SuitsAndProgrammeTest {
             Check.same("the claim, " + what, due[what], state.ofClaim(0, what));
         }
         Check.same("its coupon", 1000 + 5 * 30, state.value(0, 0));
+        Claimclub large = new Claimclub();
+        large.programme(1000000, 0, 1);
+        large.review();
+        Check.same("its coupon, to the hundredth of a percent", 1150000, large.value(0, 0));
         plain(state, 3, 1, 5000, 0, 1);
         state.economy(0, 0, 500);
         Check.same("again", 0, state.review());
@@ -337,6 +341,10 @@ final class SuitsAndProgrammeTest {
         Check.same("no arrears yet", 3, state.review());
         state.year(1);
         Check.same("arrears, of a hidden one too", 2, state.review());
+        state.economy(0, 0, 204);
+        state.year(1);
+        Check.same("arrears", 1, state.ofClaim(0, 2));
+        Check.same("arrears of 1", 2, state.review());
         state.accept(0, state.offer(0, 0, 9));
         Check.same("swapped, so they are none", 3, state.review());
         int other = plain(state, 2, 3, 1000, 1000, 9);
