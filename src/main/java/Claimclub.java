@@ -55,7 +55,8 @@ public final class Claimclub {
     // ---- claims, years
 
     public int claim(int kind, int lender, int principal, int coupon, int years, int rank, int series,
-            boolean isHidden) {
+            boolean isHidden)
+            throws IllegalArgumentException, IllegalStateException {
         needRange(kind, CLUB, FUND);
         needRange(lender, STATE_ITSELF, LAST_LENDER);
         needRange(principal, 1, MOST_SUM);
@@ -70,7 +71,8 @@ public final class Claimclub {
         return claims.size() - 1;
     }
 
-    public long pledge(int claim, int cents) {
+    public long pledge(int claim, int cents)
+            throws IndexOutOfBoundsException, IllegalArgumentException, IllegalStateException {
         Claim favoured = claimAt(claim);
         needRange(cents, 1, MOST_SUM);
         if (!favoured.isOpen() || purse < cents) {
@@ -81,7 +83,7 @@ public final class Claimclub {
         return favoured.aside;
     }
 
-    public long reveal(int claim) {
+    public long reveal(int claim) throws IndexOutOfBoundsException, IllegalStateException {
         Claim shown = claimAt(claim);
         if (!shown.isHidden) {
             throw new IllegalStateException("the claim is not hidden");
@@ -90,7 +92,7 @@ public final class Claimclub {
         return debt();
     }
 
-    public long economy(int growth, int balance, int cents) {
+    public long economy(int growth, int balance, int cents) throws IllegalArgumentException {
         needRange(growth, -1000, 1000);
         needRange(balance, -200, 200);
         needRange(cents, 0, 10000000);
@@ -100,14 +102,14 @@ public final class Claimclub {
         return purse;
     }
 
-    public boolean moratorium(int kind, boolean isOn) {
+    public boolean moratorium(int kind, boolean isOn) throws IndexOutOfBoundsException {
         needKind(kind);
         int before = moratoria;
         moratoria = withBit(before, kind, isOn);
         return moratoria != before;
     }
 
-    public long year(int years) {
+    public long year(int years) throws IllegalArgumentException, IllegalStateException {
         needRange(years, 1, 10);
         if (now + years > LAST_YEAR) {
             throw new IllegalStateException("the year would be above the last one");
@@ -191,14 +193,14 @@ public final class Claimclub {
 
     // ---- offers, votes
 
-    public int discount(int rate) {
+    public int discount(int rate) throws IllegalArgumentException {
         needRange(rate, 0, MOST_RATE);
         int before = discountRate;
         discountRate = rate;
         return before;
     }
 
-    public int offer(int cut, int coupon, int years) {
+    public int offer(int cut, int coupon, int years) throws IllegalArgumentException, IllegalStateException {
         needRange(cut, 0, 99);
         needRange(coupon, 0, MOST_COUPON);
         needRange(years, 1, MOST_YEARS);
@@ -209,7 +211,7 @@ public final class Claimclub {
         return offers.size() - 1;
     }
 
-    public int accept(int claim, int offer) {
+    public int accept(int claim, int offer) throws IndexOutOfBoundsException, IllegalStateException {
         Claim old = claimAt(claim);
         Offer accepted = offerAt(offer);
         if (old.kind == BOND || !old.isOpen()) {
@@ -232,7 +234,8 @@ public final class Claimclub {
         claims.add(fresh);
     }
 
-    public void vote(int claim, int offer, boolean isYes) {
+    public void vote(int claim, int offer, boolean isYes)
+            throws IndexOutOfBoundsException, IllegalStateException {
         Claim voter = claimAt(claim);
         Offer voted = offerAt(offer);
         if (!voter.isVoter()) {
@@ -241,7 +244,7 @@ public final class Claimclub {
         voted.tell(claim, isYes);
     }
 
-    public int settle(int offer) {
+    public int settle(int offer) throws IndexOutOfBoundsException, IllegalStateException {
         Offer settled = offerAt(offer);
         int chosenSeries = seriesToSwap(settled);
         int swaps = 0;
@@ -310,7 +313,7 @@ public final class Claimclub {
 
     // ---- suits, the programme
 
-    public int thing(int worth) {
+    public int thing(int worth) throws IllegalArgumentException, IllegalStateException {
         needRange(worth, 1, MOST_SUM);
         if (things.size() >= MOST_THINGS) {
             throw new IllegalStateException("there are as many things as there may be");
@@ -319,7 +322,7 @@ public final class Claimclub {
         return things.size() - 1;
     }
 
-    public void sue(int claim) {
+    public void sue(int claim) throws IndexOutOfBoundsException, IllegalStateException {
         Claim suing = claimAt(claim);
         if (!suing.isOpen() || suing.arrears == 0 || suing.suit != UNSUED) {
             throw new IllegalStateException("the claim is not open, has no arrears, or sued");
@@ -327,7 +330,7 @@ public final class Claimclub {
         suing.suit = SUED;
     }
 
-    public long seize(int claim, int thing) {
+    public long seize(int claim, int thing) throws IndexOutOfBoundsException, IllegalStateException {
         Claim seizing = claimAt(claim);
         Thing seized = thingAt(thing);
         if (!seizing.isOpen() || seizing.suit != JUDGED || seized.isSeized) {
@@ -343,7 +346,7 @@ public final class Claimclub {
         return paid;
     }
 
-    public void programme(int amount, int target, int reviews) {
+    public void programme(int amount, int target, int reviews) throws IllegalArgumentException {
         needRange(amount, 1, MOST_SUM);
         needRange(target, -200, 200);
         needRange(reviews, 1, 10);
@@ -352,7 +355,7 @@ public final class Claimclub {
         reviewsLeft = reviews;
     }
 
-    public boolean assure(int lender, boolean isGiven) {
+    public boolean assure(int lender, boolean isGiven) throws IndexOutOfBoundsException {
         if (lender < STATE_ITSELF || lender > LAST_LENDER) {
             throw new IndexOutOfBoundsException("there is no such lender");
         }
@@ -361,7 +364,7 @@ public final class Claimclub {
         return assurances != before;
     }
 
-    public int review() {
+    public int review() throws IllegalStateException {
         if (reviewsLeft == 0) {
             throw new IllegalStateException("there is no programme, or all of its reviews were done");
         }
@@ -412,20 +415,21 @@ public final class Claimclub {
 
     // ---- what is asked
 
-    public long value(int claim, int rate) {
+    public long value(int claim, int rate) throws IndexOutOfBoundsException, IllegalArgumentException {
         Claim asked = claimAt(claim);
         needRange(rate, 0, MOST_RATE);
         return asked.worth(now, rate);
     }
 
-    public long offered(int claim, int offer, int rate) {
+    public long offered(int claim, int offer, int rate)
+            throws IndexOutOfBoundsException, IllegalArgumentException {
         Claim asked = claimAt(claim);
         Offer terms = offerAt(offer);
         needRange(rate, 0, MOST_RATE);
         return asked.isOpen() ? discounted(terms.principalFor(asked), terms.coupon, terms.years, rate) : 0;
     }
 
-    public int effort(int kind) {
+    public int effort(int kind) throws IndexOutOfBoundsException {
         needKind(kind);
         return effortOf(kind);
     }
@@ -460,7 +464,7 @@ public final class Claimclub {
         return wasSwapped;
     }
 
-    public boolean passes(int offer, int series) {
+    public boolean passes(int offer, int series) throws IndexOutOfBoundsException {
         Offer asked = offerAt(offer);
         if (series != NONE && (series < 0 || series > LAST_SERIES)) {
             throw new IndexOutOfBoundsException("there is no such series");
@@ -468,7 +472,7 @@ public final class Claimclub {
         return series == NONE ? arePooled(asked) : hasMajority(asked, series, 75);
     }
 
-    public boolean isBearable(int years) {
+    public boolean isBearable(int years) throws IllegalArgumentException {
         needRange(years, 1, MOST_YEARS);
         long owed = debt();
         long made = output;
@@ -497,7 +501,7 @@ public final class Claimclub {
         return owed;
     }
 
-    public long ofClaim(int claim, int what) {
+    public long ofClaim(int claim, int what) throws IndexOutOfBoundsException, IllegalArgumentException {
         Claim asked = claimAt(claim);
         switch (what) {
             case 0:
@@ -521,11 +525,11 @@ public final class Claimclub {
         }
     }
 
-    public long paidAnew(int claim) {
+    public long paidAnew(int claim) throws IndexOutOfBoundsException {
         return claimAt(claim).paymentsAdded();
     }
 
-    public long ofState(int what) {
+    public long ofState(int what) throws IllegalArgumentException {
         switch (what) {
             case 0:
                 return now;

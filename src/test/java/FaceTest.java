@@ -1,64 +1,119 @@
+import java.io.IOException;
 import java.lang.reflect.Constructor;
 import java.lang.reflect.Field;
 import java.lang.reflect.Method;
 import java.lang.reflect.Modifier;
+import java.lang.reflect.Parameter;
+import java.nio.file.Files;
+import java.nio.file.Path;
 import java.util.ArrayList;
 import java.util.Collections;
 import java.util.List;
 
-/** The public face: the constants, and exactly the members that the document names. */
+/**
+ * The public face: each member is declared as the code block of the document declares it, its throws clause
+ * too, and there is no other. The class must be compiled with -parameters, as .ci/run does.
+ */
 final class FaceTest {
-    private static final String[] METHODS = {
-        "int claim(int,int,int,int,int,int,int,boolean)", "long pledge(int,int)", "long reveal(int)",
-        "long economy(int,int,int)", "boolean moratorium(int,boolean)", "long year(int)", "int discount(int)",
-        "int offer(int,int,int)", "int accept(int,int)", "void vote(int,int,boolean)", "int settle(int)",
-        "int thing(int)", "void sue(int)", "long seize(int,int)", "void programme(int,int,int)",
-        "boolean assure(int,boolean)", "int review()", "long value(int,int)", "long offered(int,int,int)",
-        "int effort(int)", "boolean areAlike()", "boolean passes(int,int)", "boolean isBearable(int)",
-        "long ofClaim(int,int)", "long paidAnew(int)", "long ofState(int)"
-    };
-    private static final String[] CONSTANTS = {
-        "NONE=-1", "CLUB=0", "BOND=1", "BANK=2", "SUPPLIER=3", "FUND=4", "OPEN=0", "PAID=1", "SWAPPED=2"
-    };
+    private static final String DOCUMENT = "../shared/DOC.md";
 
-    public static void main(String[] args) throws IllegalAccessException {
+    public static void main(String[] args) throws IOException, IllegalAccessException {
         Class<?> face = Claimclub.class;
-        Check.same("the class is public and final", true,
-            Modifier.isPublic(face.getModifiers()) && Modifier.isFinal(face.getModifiers()));
-        Check.same("the methods", sorted(List.of(METHODS)), sorted(visibleMethods(face)));
-        Check.same("the constants", sorted(List.of(CONSTANTS)), sorted(visibleFields(face)));
-        Constructor<?>[] constructors = face.getDeclaredConstructors();
-        Check.same("the constructors", 1, constructors.length);
-        Check.same("the constructor is public", true, Modifier.isPublic(constructors[0].getModifiers()));
-        Check.same("its parameters", 0, constructors[0].getParameterCount());
+        List<String> asked = declarationsOf(DOCUMENT);
+        Check.same("the document's members, its class with them", 1 + 9 + 1 + 26, asked.size());
+
+        List<String> found = new ArrayList<>();
+        found.add(Modifier.toString(face.getModifiers()) + " class " + face.getName());
+        addFields(face, found);
+        addConstructors(face, found);
+        addMethods(face, found);
+        sameMembers(asked, found);
         Check.same("no private method bears the name of a public one", "[]", sorted(doubledNames(face)));
         Check.end("FaceTest");
     }
 
-    private static List<String> visibleMethods(Class<?> face) {
-        List<String> found = new ArrayList<>();
-        for (Method method : face.getDeclaredMethods()) {
-            if (!Modifier.isPrivate(method.getModifiers()) && !method.isSynthetic()) {
-                List<String> parameters = new ArrayList<>();
-                for (Class<?> parameter : method.getParameterTypes()) {
-                    parameters.add(parameter.getName());
-                }
-                found.add(method.getReturnType() + " " + method.getName() + "(" + String.join(",", parameters) + ")");
-            }
+    /** A row for each member that differs, so that a clause that is wanting is told by its method. */
+    private static void sameMembers(List<String> asked, List<String> found) {
+        for (String member : asked) {
+            Check.same("the class declares: " + member, true, found.contains(member));
         }
-        return found;
+        for (String member : found) {
+            Check.same("the document declares: " + member, true, asked.contains(member));
+        }
+        Check.same("all members, each once", sorted(asked), sorted(found));
     }
 
-    private static List<String> visibleFields(Class<?> face) throws IllegalAccessException {
-        List<String> found = new ArrayList<>();
-        for (Field field : face.getDeclaredFields()) {
-            if (!Modifier.isPrivate(field.getModifiers()) && !field.isSynthetic()) {
-                boolean isConstant = Modifier.isPublic(field.getModifiers()) && Modifier.isStatic(field.getModifiers())
-                    && Modifier.isFinal(field.getModifiers()) && field.getType() == int.class;
-                found.add(field.getName() + (isConstant ? "=" + field.getInt(null) : " is no constant"));
+    /** What stands in the document's first block of Java, a text for each member, without the signs at its end. */
+    private static List<String> declarationsOf(String document) throws IOException {
+        List<String> declarations = new ArrayList<>();
+        boolean isInBlock = false;
+        for (String line : Files.readAllLines(Path.of(document))) {
+            if (line.startsWith("```")) {
+                if (isInBlock) {
+                    return declarations;
+                }
+                isInBlock = line.equals("```java");
+            } else if (isInBlock && line.strip().startsWith("public ")) {
+                addDeclared(line.strip().replaceAll(" *[;{]$", ""), declarations);
             }
         }
-        return found;
+        return declarations;
+    }
+
+    /** A line with several constants, 'int A = 0, B = 1', counts as one for each of them. */
+    private static void addDeclared(String line, List<String> declarations) {
+        String constant = "public static final int ";
+        if (!line.startsWith(constant)) {
+            declarations.add(line);
+            return;
+        }
+        for (String named : line.substring(constant.length()).split(", ")) {
+            declarations.add(constant + named);
+        }
+    }
+
+    private static void addFields(Class<?> face, List<String> found) throws IllegalAccessException {
+        for (Field field : face.getDeclaredFields()) {
+            if (!Modifier.isPrivate(field.getModifiers()) && !field.isSynthetic()) {
+                boolean isNumber = Modifier.isStatic(field.getModifiers()) && field.getType() == int.class;
+                found.add(Modifier.toString(field.getModifiers()) + " " + field.getType().getSimpleName() + " "
+                    + field.getName() + (isNumber ? " = " + field.getInt(null) : ""));
+            }
+        }
+    }
+
+    private static void addConstructors(Class<?> face, List<String> found) {
+        for (Constructor<?> constructor : face.getDeclaredConstructors()) {
+            found.add(Modifier.toString(constructor.getModifiers()) + " " + constructor.getName()
+                + parametersOf(constructor.getParameters()) + clauseOf(constructor.getExceptionTypes()));
+        }
+    }
+
+    private static void addMethods(Class<?> face, List<String> found) {
+        for (Method method : face.getDeclaredMethods()) {
+            if (!Modifier.isPrivate(method.getModifiers()) && !method.isSynthetic()) {
+                found.add(Modifier.toString(method.getModifiers()) + " " + method.getReturnType().getSimpleName()
+                    + " " + method.getName() + parametersOf(method.getParameters())
+                    + clauseOf(method.getExceptionTypes()));
+            }
+        }
+    }
+
+    private static String parametersOf(Parameter[] parameters) {
+        List<String> texts = new ArrayList<>();
+        for (Parameter parameter : parameters) {
+            texts.add(parameter.getType().getSimpleName() + " " + parameter.getName());
+        }
+        return "(" + String.join(", ", texts) + ")";
+    }
+
+    /** The exceptions in the order in which they are declared: the document gives it a meaning. */
+    private static String clauseOf(Class<?>[] exceptions) {
+        List<String> names = new ArrayList<>();
+        for (Class<?> exception : exceptions) {
+            names.add(exception.getSimpleName());
+        }
+        return names.isEmpty() ? "" : " throws " + String.join(", ", names);
     }
 
     private static List<String> doubledNames(Class<?> face) {
