@@ -7,8 +7,18 @@ final class Check {
 
     private static int checks = 0;
     private static int failures = 0;
+    private static String about = "";
 
     private Check() {
+    }
+
+    /** What the next checks are about: told ahead of each that fails. */
+    static void about(String words) {
+        about = words.isEmpty() ? "" : words + ": ";
+    }
+
+    static int count() {
+        return checks;
     }
 
     static void same(String what, long due, long got) {
@@ -74,7 +84,7 @@ final class Check {
                     where = frame.toString() + ": ";
                 }
             }
-            System.out.println(where + what);
+            System.out.println(where + about + what);
         }
     }
 
